@@ -106,7 +106,7 @@ public final class PageVault {
             return NONE;
         }
         int before = found.length();
-        // In a long, since the sum of two ints may wrap round into the range that is allowed.
+        // In a long, so that a sum above every int is still seen to be above LIMIT.
         long after = (long) before + n;
         if (after < 0 || after > LIMIT) {
             return NONE;
@@ -130,12 +130,11 @@ public final class PageVault {
 
     public boolean store(int space, int at, int n, int v) {
         latestTrap = 0;
-        int frame = isStraight(at, n) ? touch(find(space), at, WRITE) : trapped(CROOKED);
-        if (frame == NONE) {
+        if (!isStraight(at, n)) {
+            trapped(CROOKED);
             return false;
         }
-        frames.write(frame, at, n, v);
-        return true;
+        return write(find(space), at, n, v);
     }
 
     public int trap() {
@@ -149,11 +148,9 @@ public final class PageVault {
         }
         Space found = find(space);
         for (int k = 0; k < n; k++) {
-            int frame = touch(found, at + k, WRITE);
-            if (frame == NONE) {
+            if (!write(found, at + k, 1, buffer[k])) {
                 return k;
             }
-            frames.write(frame, at + k, 1, buffer[k]);
         }
         return n;
     }
@@ -165,11 +162,11 @@ public final class PageVault {
         }
         Space found = find(space);
         for (int k = 0; k < n; k++) {
-            int frame = touch(found, at + k, READ);
-            if (frame == NONE) {
+            int b = readByte(found, at + k);
+            if (b == NONE) {
                 return k;
             }
-            buffer[k] = frames.read(frame, at + k, 1);
+            buffer[k] = b;
         }
         return n;
     }
@@ -181,12 +178,12 @@ public final class PageVault {
         }
         Space found = find(space);
         for (int k = 0; k < n; k++) {
-            int frame = touch(found, at + k, READ);
-            if (frame == NONE) {
+            int b = readByte(found, at + k);
+            if (b == NONE) {
                 return NONE;
             }
-            buffer[k] = frames.read(frame, at + k, 1);
-            if (buffer[k] == 0) {
+            buffer[k] = b;
+            if (b == 0) {
                 return k;
             }
         }
@@ -215,8 +212,7 @@ public final class PageVault {
     }
 
     public int owners(int space, int at) {
-        int entry = entryIn(space, at);
-        return entry == 0 ? 0 : frames.holders(frameOf(entry));
+        return frames.holders(frameOf(entryIn(space, at)));
     }
 
     /** The space of that number; null if there is none such. */
@@ -243,8 +239,28 @@ public final class PageVault {
 
     private int number(int space, int at, int n, int use) {
         latestTrap = 0;
-        int frame = isStraight(at, n) ? touch(find(space), at, use) : trapped(CROOKED);
+        if (!isStraight(at, n)) {
+            trapped(CROOKED);
+            return 0;
+        }
+        int frame = touch(find(space), at, use);
         return frame == NONE ? 0 : frames.read(frame, at, n);
+    }
+
+    /** The byte at an address; NONE with a trap. */
+    private int readByte(Space space, int at) {
+        int frame = touch(space, at, READ);
+        return frame == NONE ? NONE : frames.read(frame, at, 1);
+    }
+
+    /** False with a trap. */
+    private boolean write(Space space, int at, int n, int v) {
+        int frame = touch(space, at, WRITE);
+        if (frame == NONE) {
+            return false;
+        }
+        frames.write(frame, at, n, v);
+        return true;
     }
 
     /** The frame that holds the address, ready for that use; NONE with a trap. */

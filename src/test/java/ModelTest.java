@@ -10,8 +10,8 @@ import java.util.TreeMap;
 public final class ModelTest {
     private static final int LIMIT = 1073741824;
     private static final int RUNS = 4000;
-    // A step makes up to six calls and the end of a run 64: an object is promised for 512.
-    private static final int STEPS = 70;
+    // A step makes up to six calls, the start of a run 12 and its end 176: an object is promised for 512.
+    private static final int STEPS = 54;
     private static final int[] EDGES = {0, 0, 0, 4096, 8192, 12288, 4096 * 1023, 4194304, 4194304 * 2, LIMIT - 4096,
         LIMIT - 4194304, LIMIT, -4096, Integer.MIN_VALUE, Integer.MAX_VALUE - 4095};
     private static final int[] ODD = {-1, 3, 5, 16, 17, 512, 513, LIMIT, -LIMIT, Integer.MAX_VALUE, Integer.MIN_VALUE};
@@ -419,6 +419,10 @@ public final class ModelTest {
         int used = 1 + pick(16);
         PageVault x = new PageVault(frames);
         Model m = new Model(frames);
+        // A byte that is lost shows only where it was not 0.
+        for (int k = 0; k < 12; k++) {
+            due("put", one(x.put(k, 200 + k)), one(m.put(k, 200 + k)));
+        }
         for (int step = 0; step < STEPS && wrong < 20; step++) {
             String run = "run " + number + ", step " + step + ": ";
             int s = anySpace(used);
@@ -444,8 +448,10 @@ public final class ModelTest {
                 int at = anyPage();
                 due(run + "flags(" + s + ", " + at + ")", x.flags(s, at), m.flags(s, at));
                 due(run + "in(" + s + ", " + at + ", 512)", x.in(s, at, 512), m.copy(s, at, 512, 1));
-                int k = pick(12);
-                due(run + "at(" + k + ")", x.at(k), m.at(k));
+                for (int k = 0; k < 32; k += 4) {
+                    int near = k + pick(4);
+                    due(run + "at(" + near + ")", x.at(near), m.at(near));
+                }
             }
         }
     }

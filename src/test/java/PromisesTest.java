@@ -38,6 +38,7 @@ public final class PromisesTest {
         size();
         load();
         loadMakesPages();
+        loadFromEveryFrame();
         loadTraps();
         fetch();
         store();
@@ -45,6 +46,7 @@ public final class PromisesTest {
         storeTraps();
         trap();
         out();
+        outKeepsNeighbours();
         outTraps();
         in();
         inTraps();
@@ -501,6 +503,24 @@ public final class PromisesTest {
         due("trap() of a number over SIZE", x.trap(), 0);
     }
 
+    private static void loadFromEveryFrame() {
+        section = "9, load from every frame";
+        PageVault x = new PageVault(8);
+        for (int k = 0; k < 6; k++) {
+            x.make();
+        }
+        x.grow(5, 6 * 4096);
+        x.load(5, 0, 1);
+        for (int k = 0; k < 5; k++) {
+            x.drop(k);
+            due("store", x.store(5, 4096 * (k + 1), 4, 100 + k), true);
+        }
+        due("free()", x.free(), 0);
+        for (int k = 0; k < 5; k++) {
+            due("load", x.load(5, 4096 * (k + 1), 4), 100 + k);
+        }
+    }
+
     private static void loadTraps() {
         section = "9, load traps";
         PageVault x = withSize(8, LIMIT);
@@ -757,6 +777,23 @@ public final class PromisesTest {
         }
         due("out of none nowhere", x.out(0, -1, 0), 0);
         due("trap()", x.trap(), 0);
+    }
+
+    private static void outKeepsNeighbours() {
+        section = "13, out keeps the bytes around";
+        for (int from = 0; from < 4; from++) {
+            for (int n = 0; n < 6; n++) {
+                PageVault x = withSize(10, 4096);
+                for (int k = 0; k < 12; k += 4) {
+                    x.store(0, 100 + k, 4, -1);
+                }
+                fill(x, 0, 6, 1);
+                due("out", x.out(0, 100 + from, n), n);
+                for (int k = 0; k < 12; k++) {
+                    due("load", x.load(0, 100 + k, 1), k < from || k >= from + n ? 255 : 1 + k - from);
+                }
+            }
+        }
     }
 
     private static void outTraps() {

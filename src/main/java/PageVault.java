@@ -379,11 +379,11 @@ public final class PageVault {
         }
 
         int word(int frame, int k) {
-            return isFrame(frame) && isWord(k) ? words[frame][k] : 0;
+            return frame >= 0 && frame < words.length && k >= 0 && k < WORDS ? words[frame][k] : 0;
         }
 
         void setWord(int frame, int k, int value) {
-            if (isFrame(frame) && isWord(k)) {
+            if (frame >= 0 && frame < words.length && k >= 0 && k < WORDS) {
                 words[frame][k] = value;
             }
         }
@@ -406,10 +406,6 @@ public final class PageVault {
 
         private boolean isFrame(int frame) {
             return frame >= 0 && frame < holders.length;
-        }
-
-        private static boolean isWord(int k) {
-            return k >= 0 && k < WORDS;
         }
 
         private static int wordOf(int at) {
@@ -505,15 +501,15 @@ public final class PageVault {
         /** The frame of a new page of zeros; NONE, changing nothing, if the frames do not suffice. */
         int addPage(int at, int flags) {
             int region = at >>> REGION_SHIFT;
-            boolean needsTable = tableOf(region) == NONE;
-            if (frames.spare() < (needsTable ? 2 : 1)) {
+            int table = tableOf(region);
+            if (frames.spare() < (table == NONE ? 2 : 1)) {
                 return NONE;
             }
-            if (needsTable) {
-                addTable(region);
+            if (table == NONE) {
+                table = addTable(region);
             }
             int frame = frames.take();
-            setEntry(at, entryOf(frame, flags));
+            frames.setWord(table, slotOf(at), entryOf(frame, flags));
             return frame;
         }
 
